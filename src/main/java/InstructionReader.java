@@ -115,7 +115,7 @@ public final class InstructionReader {
     }
 
     private static Kind kindOf(int bits) {
-        return isLong(bits) ? LongKinds.kindOf(bits) : ShortKinds.kindOf(bits);
+        return isLong(bits) ? LongKinds.ofWord(bits) : ShortKinds.ofHalf(bits);
     }
 
     private void show(int bits) {
@@ -235,7 +235,7 @@ public final class InstructionReader {
 
     /** Which line 32 bits are made of. */
     private static final class LongKinds {
-        static Kind kindOf(int bits) {
+        static Kind ofWord(int bits) {
             int f = bits >> 12 & 7;
             int g = bits >>> 25;
             switch (bits & 127) {
@@ -395,7 +395,7 @@ public final class InstructionReader {
 
     /** Which line 16 bits are made of. */
     private static final class ShortKinds {
-        static Kind kindOf(int bits) {
+        static Kind ofHalf(int bits) {
             int f = bits >> 13 & 7;
             switch (bits & 3) {
                 case 0: return ofQ0(f, bits);
