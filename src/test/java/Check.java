@@ -3,12 +3,22 @@ final class Check {
     private static final int PRINTED = 50;
     private static int wrong = 0;
     private static int asked = 0;
+    private static String sentence = "";
 
     private Check() {
     }
 
+    /** The words of the document that the answers from here on hang on; told with each fault. */
+    static void sentence(String words) {
+        sentence = " [" + words + "]";
+    }
+
     interface Call {
         void run();
+    }
+
+    interface Asked {
+        long ask();
     }
 
     static void same(String what, long got, long due) {
@@ -50,6 +60,7 @@ final class Check {
         for (int k = 0; k < size; k++) {
             all.append(x.letter(k));
         }
+        failsOutside("letter before '" + all + "'", () -> x.letter(-1));
         failsOutside("letter behind '" + all + "'", () -> x.letter(size));
         return all.toString();
     }
@@ -64,6 +75,38 @@ final class Check {
         same(call + " about(1)", x.about(1), bytes);
         same(call + " about(2)", x.about(2), instruction);
         same(call + " about(3)", x.about(3), operands);
+    }
+
+    /** The line that these bits are made of; how many bytes and operands follows from both. */
+    static void line(int bits, String due) {
+        int operands = due.indexOf(' ') < 0 ? 0 : due.split(", ").length;
+        reads(bits, due, (bits & 3) == 3 ? 4 : 2, 1, operands);
+    }
+
+    static void lines(Object... bitsAndTexts) {
+        for (int i = 0; i < bitsAndTexts.length; i += 2) {
+            line((Integer) bitsAndTexts[i], (String) bitsAndTexts[i + 1]);
+        }
+    }
+
+    /** No line is made of these bits. */
+    static void numbers(int... manyBits) {
+        for (int bits : manyBits) {
+            if ((bits & 3) == 3) {
+                reads(bits, ".word " + Integer.toUnsignedString(bits), 4, 0, 1);
+            } else {
+                reads(bits, ".half " + (bits & 65535), 2, 0, 1);
+            }
+        }
+    }
+
+    /** An answer that a call throws is named apart from every number. */
+    static String answer(Asked call) {
+        try {
+            return Long.toString(call.ask());
+        } catch (RuntimeException e) {
+            return "throws." + e.getClass().getSimpleName();
+        }
     }
 
     static void pokeBits(InstructionReader x, int address, int bits, int bytes) {
@@ -82,7 +125,7 @@ final class Check {
     private static void tell(String fault) {
         wrong++;
         if (wrong <= PRINTED) {
-            System.out.println(fault);
+            System.out.println(fault + sentence);
         }
     }
 }

@@ -46,6 +46,26 @@ final class Lines {
             return ~(varied ^ said);
         }
 
+        /** The other way round, for long ones: each bit of an operand is where it alone goes. */
+        Operands decode(int bits) {
+            int d = 0;
+            int a = 0;
+            int b = 0;
+            int e = 0;
+            for (int i = 0; i < 32; i++) {
+                int one = 1 << i;
+                d |= i < 5 && (bits & goes(new Operands(one, 0, 0, 0))) != 0 ? one : 0;
+                a |= i < 5 && (bits & goes(new Operands(0, one, 0, 0))) != 0 ? one : 0;
+                b |= i < 5 && (bits & goes(new Operands(0, 0, one, 0))) != 0 ? one : 0;
+                e |= i < 31 && (bits & goes(new Operands(0, 0, 0, one))) != 0 ? one : 0;
+            }
+            return new Operands(d, a, b, e > high ? e - (high - low + step) : e);
+        }
+
+        private int goes(Operands o) {
+            return encode(o) ^ said;
+        }
+
         String text(Operands o) {
             StringBuilder all = new StringBuilder(name);
             if (!operands.isEmpty()) {

@@ -4,11 +4,9 @@ import java.util.List;
 public final class Promise2LongTest {
     private static final int[] OPCODES = {3, 15, 19, 23, 35, 47, 51, 55, 99, 103, 111, 115};
     private static final List<Lines.Line> LINES = Lines.longOnes();
-    private static final int[] MASKS = LINES.stream().mapToInt(Lines.Line::mask).toArray();
     private static final Dice DICE = new Dice(20261115);
 
     public static void main(String[] args) {
-        examples();
         for (Lines.Line line : LINES) {
             edges(line);
             registers(line);
@@ -28,27 +26,6 @@ public final class Promise2LongTest {
             anyBits(bits | 2 << 27);
         }
         Check.finish();
-    }
-
-    private static void examples() {
-        Check.reads(10682931, "add tp, t1, a0", 4, 1, 3);
-        Check.reads(-1, ".word 4294967295", 4, 0, 1);
-        Check.reads(-2147483648 + 3, "lb zero, -2048(zero)", 4, 1, 2);
-        Check.reads(3, "lb zero, 0(zero)", 4, 1, 2);
-        Check.reads(7, ".word 7", 4, 0, 1);
-        Check.reads(99, "beq zero, zero, .+0", 4, 1, 3);
-        Check.reads(-2147483648 + 99, "beq zero, zero, .-4096", 4, 1, 3);
-        Check.reads(-1 << 12 | 55, "lui zero, 1048575", 4, 1, 2);
-        Check.reads(267386895, "fence", 4, 1, 0);
-        Check.reads(267386895 + 128, ".word 267387023", 4, 0, 1);
-        Check.reads(4111, "fence.i", 4, 1, 0);
-        Check.reads(15, ".word 15", 4, 0, 1);
-        Check.reads(115, "ecall", 4, 1, 0);
-        Check.reads(1048691, "ebreak", 4, 1, 0);
-        Check.reads(-1073733517, "rdcycle zero", 4, 1, 1);
-        Check.reads(302392623, "lr.w.rl a0, (a2)", 4, 1, 2);
-        Check.reads(-424270545, "amomaxu.w.aqrl a0, a1, (a2)", 4, 1, 3);
-        Check.reads(24 << 27 | 3 << 25 | 2 << 12 | 47, "amominu.w.aqrl zero, zero, (zero)", 4, 1, 3);
     }
 
     private static void edges(Lines.Line line) {
@@ -99,32 +76,8 @@ public final class Promise2LongTest {
         }
     }
 
-    /** Bits that match a line begin with its name; all others are a number. */
     private static void anyBits(int bits) {
-        InstructionReader x = new InstructionReader();
-        int size = x.read(bits);
-        String got = Check.text(x);
-        String call = "read(" + bits + ")";
-        Check.same(call, size, got.length());
-        Lines.Line line = lineOf(bits);
-        if (line == null) {
-            Check.same(call, got, ".word " + Integer.toUnsignedString(bits));
-            Check.same(call + " about(2)", x.about(2), 0);
-            Check.same(call + " about(3)", x.about(3), 1);
-        } else {
-            Check.same(call + " name", got.split(" ")[0], line.name());
-            Check.same(call + " about(2)", x.about(2), 1);
-            Check.same(call + " about(3)", x.about(3), line.count());
-        }
-        Check.same(call + " about(1)", x.about(1), 4);
-    }
-
-    private static Lines.Line lineOf(int bits) {
-        for (int i = 0; i < MASKS.length; i++) {
-            if ((bits & MASKS[i]) == LINES.get(i).said()) {
-                return LINES.get(i);
-            }
-        }
-        return null;
+        Due due = Due.of(bits);
+        Check.reads(bits, due.text(), due.bytes(), due.isLine() ? 1 : 0, due.operands());
     }
 }

@@ -65,8 +65,6 @@ public final class WalkTest {
         if (isLong) {
             bits |= bytes[here + 2] << 16 | bytes[here + 3] << 24;
         }
-        InstructionReader x = new InstructionReader();
-        x.read(bits);
-        return x.letter(0) == '.';
+        return !Due.of(bits).isLine();
     }
 }
