@@ -1,5 +1,5 @@
 /**
- * 'Terms', the long ones: every bound that they name, with bits that another assembler has made,
+ * 'Terms', the long ones: every bound that they name, with bits that another assembler makes too,
  * and the bits next to them that no line is made of.
  */
 public final class TermsLongTest {

@@ -1,6 +1,7 @@
 /**
- * 'Terms', the short ones: every bound that they name, with bits that another assembler has made,
- * and the bits next to them that no line is made of.
+ * 'Terms', the short ones: every bound that they name, with bits that another assembler makes too
+ * (but for shifts by 0, which the document allows and it refuses), and the bits next to them that
+ * no line is made of.
  */
 public final class TermsShortTest {
     public static void main(String[] args) {
