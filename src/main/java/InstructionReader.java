@@ -83,8 +83,11 @@ public final class InstructionReader {
         demandAddress(from);
         demandAddress(address);
         int last = NONE;
-        for (int here = from; here < address && here <= LAST_BEGINNING; here += bytesAt(here)) {
+        int here = from;
+        while (here < address && here <= LAST_BEGINNING) {
             last = here;
+            // Both steps are written out, here and in numbers, to show that the loop ends.
+            here += isLongAt(here) ? LONG_BYTES : SHORT_BYTES;
         }
         return last;
     }
@@ -92,10 +95,12 @@ public final class InstructionReader {
     public int numbers(int address) throws IndexOutOfBoundsException {
         demandAddress(address);
         int count = 0;
-        for (int here = address; here <= LAST_BEGINNING; here += bytesAt(here)) {
+        int here = address;
+        while (here <= LAST_BEGINNING) {
             if (isWholeAt(here) && !kindOf(bitsAt(here)).isInstruction()) {
                 count++;
             }
+            here += isLongAt(here) ? LONG_BYTES : SHORT_BYTES;
         }
         return count;
     }
@@ -131,7 +136,11 @@ public final class InstructionReader {
     }
 
     private int bytesAt(int address) {
-        return isLong(byteAt(address)) ? LONG_BYTES : SHORT_BYTES;
+        return isLongAt(address) ? LONG_BYTES : SHORT_BYTES;
+    }
+
+    private boolean isLongAt(int address) {
+        return isLong(byteAt(address));
     }
 
     private int bitsAt(int address) {
